@@ -1,0 +1,71 @@
+/** Promise 27 (digest), put together from the other answers. */
+final class DigestTest {
+    public static void main(String[] args) {
+        Expect.due("digest() of a new field", 3033182947888530339L, () -> new PoreField().digest());
+        PoreField x = new PoreField();
+        told(x);
+        x.cell(5, 20, 70, 10, 10);
+        x.cell(6, 10, 60, 0, 0);
+        x.cell(9, 10, 10, 60, 0);
+        x.fault(5, true, true);
+        x.fault(5, false, true);
+        Fields.drill(x, 0, 5, 7);
+        Fields.drill(x, 0, 9, 3);
+        Fields.drill(x, 2, 0, 4);
+        Fields.drill(x, 1, 2, 4);
+        told(x);
+        x.test(0);
+        x.shares(40, 35);
+        x.book();
+        x.pass(3);
+        told(x);
+        x.plug(1);
+        x.lift(2, 3);
+        x.price(50);
+        x.lift(1, 3);
+        x.book();
+        x.pass(1);
+        told(x);
+        x.cell(6, 10, 99, 99, 99);
+        told(x);
+        Expect.finish();
+    }
+
+    private static void told(PoreField x) {
+        long want = put(x);
+        Expect.due("digest()", want, () -> x.digest());
+        Expect.due("digest() again", want, () -> x.digest());
+    }
+
+    private static long put(PoreField x) {
+        long d = 5406;
+        for (int what = 0; what <= 14; what++) {
+            d = d * 31 + x.many(what);
+        }
+        for (int c = 0; c <= 15; c++) {
+            for (int what = 0; what <= 4; what++) {
+                d = d * 31 + x.ofCell(c, what);
+            }
+        }
+        for (int w = 0; w < x.many(1); w++) {
+            for (int what = 0; what <= 13; what++) {
+                d = d * 31 + x.ofWell(w, what);
+            }
+            if (x.ofWell(w, 4) == 0) {
+                d = d * 31 + x.bestChoke(w, 2);
+            }
+        }
+        for (int p = 0; p <= 2; p++) {
+            for (int what = 0; what <= 3; what++) {
+                d = d * 31 + x.ofPartner(p, what);
+            }
+            d = d * 31 + x.mayLift(p);
+        }
+        for (int what = 0; what <= 4; what++) {
+            d = d * 31 + x.booked(what);
+        }
+        d = d * 31 + x.wouldGive(3);
+        d = d * 31 + x.keptBack(5, true, 2);
+        return d * 31 + x.keptBack(5, false, 2);
+    }
+}
