@@ -593,7 +593,10 @@ public final class PoreField {
             }
             putGasBack();
             putWaterIn();
-            evenOut();
+            for (int c = 0; c < CELLS; c++) {
+                evenOut(c, true);
+                evenOut(c, false);
+            }
             return cameUp[OIL];
         }
 
@@ -601,7 +604,6 @@ public final class PoreField {
             for (int f = 0; f < FLUIDS; f++) {
                 cameUp[f] = 0;
             }
-            flared = 0;
             putBack = 0;
             waterIn = 0;
             gasOutlets = permit;
@@ -663,14 +665,7 @@ public final class PoreField {
             well.gave[fluid] = put;
         }
 
-        private void evenOut() {
-            for (int c = 0; c < CELLS; c++) {
-                evenWith(c, true);
-                evenWith(c, false);
-            }
-        }
-
-        private void evenWith(int number, boolean isEast) {
+        private void evenOut(int number, boolean isEast) {
             int beside = neighbour(number, isEast);
             if (beside == NONE || cells[number].isShut(isEast)) {
                 return;

@@ -28,6 +28,14 @@ final class DigestTest {
         told(x);
         x.cell(6, 10, 99, 99, 99);
         told(x);
+        // Here the best choke of the injector is another one for three months than for two.
+        PoreField y = Fields.walled();
+        y.cell(0, 40, 10, 0, 0);
+        Fields.drill(y, 0, 0, 8);
+        Fields.drill(y, 1, 0, 0);
+        Expect.due("bestChoke(1, 2)", 0, () -> y.bestChoke(1, 2));
+        Expect.due("bestChoke(1, 3)", 9, () -> y.bestChoke(1, 3));
+        told(y);
         Expect.finish();
     }
 

@@ -52,7 +52,7 @@ final class LimitsTest {
         Expect.due("pass(1) with a full tank", 0, () -> x.pass(1));
         Expect.due("tank(31)", 30, () -> x.tank(31));
         Expect.due("pass(1)", 1, () -> x.pass(1));
-        // As a new tank would do with 300 at first.
+        // The tank of a new field has room for 300.
         PoreField y = Fields.walled();
         y.capacity(0, 99);
         for (int c = 0; c < 6; c++) {

@@ -15,6 +15,7 @@ final class MonthTest {
         allocateByTests();
         testOfAPluggedWell();
         entitled();
+        roundedDown();
         counted();
         Expect.finish();
     }
@@ -49,6 +50,8 @@ final class MonthTest {
         Expect.due("a pressure below 50 gives", 0, () -> oneProducer(90, 20, 0, 0, 9).pass(1));
         Expect.due("a pressure of 51 gives", 0, () -> oneProducer(90, 46, 0, 0, 9).pass(1));
         Expect.due("a pressure of 62 gives", 1, () -> oneProducer(50, 31, 0, 0, 9).pass(1));
+        Expect.due("a pressure of 149 with a choke of 1 gives", 0, () -> oneProducer(51, 76, 0, 0, 1).pass(1));
+        Expect.due("a pressure of 150 with a choke of 1 gives", 1, () -> oneProducer(50, 75, 0, 0, 1).pass(1));
         Expect.due("a choke of 0 gives", 0, () -> oneProducer(10, 99, 0, 0, 0).pass(1));
         // The gas that would go twice as fast is just 10: 20 * 40 / 50 is 16.
         PoreField y = oneProducer(10, 40, 0, 10, 9);
@@ -84,6 +87,11 @@ final class MonthTest {
         v.capacity(2, 5);
         Expect.due("with the capacity for gas", 5, () -> v.pass(1));
         Expect.due("what it gave", "[5, 0, 5]", () -> Fields.gave(v, 0));
+        // 20 * 2 / 41 is 0 still, and 20 * 3 / 41 is 1; 21 * 2 / 41 is 1.
+        PoreField u = oneProducer(10, 20, 21, 0, 9);
+        u.capacity(0, 0);
+        u.pass(1);
+        Expect.due("what comes up without oil", "[0, 1, 0]", () -> Fields.gave(u, 0));
         // A fluid that is not there needs no capacity.
         PoreField w = oneProducer(10, 50, 0, 0, 1);
         w.capacity(1, 0);
@@ -198,6 +206,15 @@ final class MonthTest {
         y.pass(1);
         Expect.due("the injector without gas", "[0, 0, 0]", () -> Fields.gave(y, 1));
         Expect.due("many(9)", 4, () -> y.many(9));
+        Expect.due("many(10)", 4, () -> y.many(10));
+        // An injector may be the first of the wells.
+        PoreField z = Fields.walled();
+        z.cell(0, 10, 0, 0, 50);
+        Fields.drill(z, 2, 5, 1);
+        Fields.drill(z, 0, 0, 1);
+        z.pass(1);
+        Expect.due("the injector ahead of the producer", "[0, 0, 2]", () -> Fields.gave(z, 0));
+        Expect.due("many(9)", 6, () -> z.many(9));
     }
 
     private static void waterPutIn() {
@@ -221,6 +238,7 @@ final class MonthTest {
         x.plug(4);
         x.pass(1);
         Expect.due("plugged", "[0, 0, 0]", () -> Fields.gave(x, 4));
+        Expect.due("many(11) stays", 24, () -> x.many(11));
         // By the pressure behind the gas that is put back, and behind what came up.
         PoreField y = oneProducer(10, 0, 0, 50, 1);
         y.cell(5, 10, 0, 19, 0);
@@ -361,6 +379,16 @@ final class MonthTest {
         Fields.drill(x, 0, 2, 1);
         Expect.due("pass(1)", 7, () -> x.pass(1));
         Expect.due("allocated", "[15, 19, 0]", () -> allocated(x, 3));
+        // A test of a single one counts as well, and so does a well that gave a single one.
+        PoreField y = oneProducer(10, 50, 0, 0, 1);
+        y.cell(1, 50, 31, 0, 0);
+        Fields.drill(y, 0, 1, 9);
+        y.test(1);
+        Expect.due("pass(1)", 5, () -> y.pass(1));
+        Expect.due("allocated without tests", "[3, 2]", () -> allocated(y, 2));
+        y.cell(1, 50, 31, 0, 0);
+        Expect.due("pass(1)", 5, () -> y.pass(1));
+        Expect.due("allocated by the only test", "[3, 7]", () -> allocated(y, 2));
         // In months that go by in one call just the first one is the test.
         x.test(2);
         x.pass(3);
@@ -406,6 +434,15 @@ final class MonthTest {
         Expect.due("partner 0", 13, () -> x.ofPartner(0, 1));
         Expect.due("partner 1", 4, () -> x.ofPartner(1, 1));
         Expect.due("partner 2", 4, () -> x.ofPartner(2, 1));
+    }
+
+    private static void roundedDown() {
+        PoreField x = oneProducer(10, 50, 0, 0, 2);
+        x.shares(1, 99);
+        // 9 * 99 / 100 is 8.
+        Expect.due("pass(1)", 9, () -> x.pass(1));
+        Expect.due("partner 0", 1, () -> x.ofPartner(0, 1));
+        Expect.due("partner 1", 8, () -> x.ofPartner(1, 1));
     }
 
     private static void counted() {
