@@ -1,12 +1,18 @@
-/** Counts and prints the answers that are not the due ones; finish() ends the test with exit code 1 if there are any. */
+/** Counts and prints the answers that are not the due ones; finish() ends the test with exit code 1 if there is one. */
 final class Expect {
     private static int wrong = 0;
+    private static String words = "";
 
     private Expect() {
     }
 
     interface Call {
         Object answer();
+    }
+
+    /** The words of the document that the checks from here on stand for: what is wrong is told with them. */
+    static void sentence(String told) {
+        words = told;
     }
 
     static void due(String call, Object want, Call made) {
@@ -18,7 +24,8 @@ final class Expect {
         }
         if (!want.equals(got)) {
             wrong++;
-            System.out.println(call + " answered " + got + ", due is " + want);
+            String behind = words.isEmpty() ? "" : " [" + words + "]";
+            System.out.println(call + " answered " + got + ", due is " + want + behind);
         }
     }
 

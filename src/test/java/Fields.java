@@ -17,6 +17,21 @@ final class Fields {
         return x;
     }
 
+    /** The cell 0 on its own, with a producer in it, which is the well 0. */
+    static PoreField oneProducer(int room, int oil, int water, int gas, int choke) {
+        PoreField x = walled();
+        x.cell(0, room, oil, water, gas);
+        drill(x, 0, 0, choke);
+        return x;
+    }
+
+    /** The one beside a cell, by the rows of the document; -1, if there is none. */
+    static int beside(int cell, boolean isEast) {
+        int[] east = {1, 2, 3, -1, 5, 6, 7, -1, 9, 10, 11, -1, 13, 14, 15, -1};
+        int[] south = {4, 5, 6, 7, 8, 9, 10, 11, 12, 13, 14, 15, -1, -1, -1, -1};
+        return isEast ? east[cell] : south[cell];
+    }
+
     static int drill(PoreField x, int kind, int cell, int choke) {
         int well = x.well(kind, cell);
         x.choke(well, choke);
@@ -33,6 +48,18 @@ final class Fields {
 
     static String tested(PoreField x, int well) {
         return Expect.row(x.ofWell(well, 5), x.ofWell(well, 6), x.ofWell(well, 7));
+    }
+
+    static String allocated(PoreField x) {
+        int[] row = new int[x.many(1)];
+        for (int w = 0; w < row.length; w++) {
+            row[w] = x.ofWell(w, 12);
+        }
+        return Expect.row(row);
+    }
+
+    static String entitled(PoreField x) {
+        return Expect.row(x.ofPartner(0, 1), x.ofPartner(1, 1), x.ofPartner(2, 1));
     }
 
     static String booked(PoreField x) {

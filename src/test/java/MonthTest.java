@@ -20,13 +20,6 @@ final class MonthTest {
         Expect.finish();
     }
 
-    private static PoreField oneProducer(int room, int oil, int water, int gas, int choke) {
-        PoreField x = Fields.walled();
-        x.cell(0, room, oil, water, gas);
-        Fields.drill(x, 0, 0, choke);
-        return x;
-    }
-
     private static void wrongMonths() {
         PoreField x = new PoreField();
         Expect.argument("pass(0)", () -> x.pass(0));
@@ -41,24 +34,24 @@ final class MonthTest {
 
     private static void wants() {
         // 2 * (500 - 50) / 100 times out of 50.
-        PoreField x = oneProducer(10, 20, 20, 10, 2);
+        PoreField x = Fields.oneProducer(10, 20, 20, 10, 2);
         Expect.due("pass(1)", 3, () -> x.pass(1));
         Expect.due("what it gave", "[3, 3, 3]", () -> Fields.gave(x, 0));
         Expect.due("what the cell has then", "[17, 17, 7]", () -> Fields.fluids(x, 0));
         Expect.due("many(8)", 3, () -> x.many(8));
-        Expect.due("a pressure of 50 gives", 0, () -> oneProducer(40, 20, 0, 0, 9).pass(1));
-        Expect.due("a pressure below 50 gives", 0, () -> oneProducer(90, 20, 0, 0, 9).pass(1));
-        Expect.due("a pressure of 51 gives", 0, () -> oneProducer(90, 46, 0, 0, 9).pass(1));
-        Expect.due("a pressure of 62 gives", 1, () -> oneProducer(50, 31, 0, 0, 9).pass(1));
-        Expect.due("a pressure of 149 with a choke of 1 gives", 0, () -> oneProducer(51, 76, 0, 0, 1).pass(1));
-        Expect.due("a pressure of 150 with a choke of 1 gives", 1, () -> oneProducer(50, 75, 0, 0, 1).pass(1));
-        Expect.due("a choke of 0 gives", 0, () -> oneProducer(10, 99, 0, 0, 0).pass(1));
+        Expect.due("a pressure of 50 gives", 0, () -> Fields.oneProducer(40, 20, 0, 0, 9).pass(1));
+        Expect.due("a pressure below 50 gives", 0, () -> Fields.oneProducer(90, 20, 0, 0, 9).pass(1));
+        Expect.due("a pressure of 51 gives", 0, () -> Fields.oneProducer(90, 46, 0, 0, 9).pass(1));
+        Expect.due("a pressure of 62 gives", 1, () -> Fields.oneProducer(50, 31, 0, 0, 9).pass(1));
+        Expect.due("a pressure of 149 with a choke of 1 gives", 0, () -> Fields.oneProducer(51, 76, 0, 0, 1).pass(1));
+        Expect.due("a pressure of 150 with a choke of 1 gives", 1, () -> Fields.oneProducer(50, 75, 0, 0, 1).pass(1));
+        Expect.due("a choke of 0 gives", 0, () -> Fields.oneProducer(10, 99, 0, 0, 0).pass(1));
         // The gas that would go twice as fast is just 10: 20 * 40 / 50 is 16.
-        PoreField y = oneProducer(10, 40, 0, 10, 9);
+        PoreField y = Fields.oneProducer(10, 40, 0, 10, 9);
         Expect.due("pass(1)", 32, () -> y.pass(1));
         Expect.due("what it gave", "[32, 0, 10]", () -> Fields.gave(y, 0));
         // Two in a cell: the second one by the pressure that is left.
-        PoreField z = oneProducer(10, 50, 0, 0, 2);
+        PoreField z = Fields.oneProducer(10, 50, 0, 0, 2);
         Fields.drill(z, 0, 0, 2);
         Expect.due("pass(1)", 16, () -> z.pass(1));
         Expect.due("what the second gave", "[7, 0, 0]", () -> Fields.gave(z, 1));
@@ -70,30 +63,30 @@ final class MonthTest {
     }
 
     private static void capacities() {
-        PoreField x = oneProducer(10, 99, 0, 0, 9);
+        PoreField x = Fields.oneProducer(10, 99, 0, 0, 9);
         Expect.due("with the capacity of 40", 40, () -> x.pass(1));
-        PoreField y = oneProducer(10, 50, 0, 0, 9);
+        PoreField y = Fields.oneProducer(10, 50, 0, 0, 9);
         y.capacity(0, 7);
         Expect.due("with a capacity of 7", 7, () -> y.pass(1));
         Expect.due("with a capacity of 7, a month on", 7, () -> y.pass(1));
         y.capacity(0, 0);
         Expect.due("with a capacity of 0", 0, () -> y.pass(1));
         // 60 * 68 / 100 is 40, 60 * 69 / 100 is 41.
-        PoreField z = oneProducer(10, 30, 60, 10, 9);
+        PoreField z = Fields.oneProducer(10, 30, 60, 10, 9);
         Expect.due("with the capacity for water", 20, () -> z.pass(1));
         Expect.due("what it gave", "[20, 40, 10]", () -> Fields.gave(z, 0));
         // 2 * 20 * a / 60 is 5 at most up to a = 8.
-        PoreField v = oneProducer(10, 40, 0, 20, 9);
+        PoreField v = Fields.oneProducer(10, 40, 0, 20, 9);
         v.capacity(2, 5);
         Expect.due("with the capacity for gas", 5, () -> v.pass(1));
         Expect.due("what it gave", "[5, 0, 5]", () -> Fields.gave(v, 0));
         // 20 * 2 / 41 is 0 still, and 20 * 3 / 41 is 1; 21 * 2 / 41 is 1.
-        PoreField u = oneProducer(10, 20, 21, 0, 9);
+        PoreField u = Fields.oneProducer(10, 20, 21, 0, 9);
         u.capacity(0, 0);
         u.pass(1);
         Expect.due("what comes up without oil", "[0, 1, 0]", () -> Fields.gave(u, 0));
         // A fluid that is not there needs no capacity.
-        PoreField w = oneProducer(10, 50, 0, 0, 1);
+        PoreField w = Fields.oneProducer(10, 50, 0, 0, 1);
         w.capacity(1, 0);
         w.capacity(2, 0);
         w.permit(0);
@@ -101,7 +94,7 @@ final class MonthTest {
     }
 
     private static PoreField twoWells() {
-        PoreField x = oneProducer(10, 50, 0, 0, 9);
+        PoreField x = Fields.oneProducer(10, 50, 0, 0, 9);
         x.cell(1, 10, 50, 0, 0);
         Fields.drill(x, 0, 1, 9);
         x.capacity(0, 50);
@@ -132,21 +125,21 @@ final class MonthTest {
     }
 
     private static void tankRoom() {
-        PoreField x = oneProducer(10, 50, 25, 0, 9);
+        PoreField x = Fields.oneProducer(10, 50, 25, 0, 9);
         x.tank(4);
         // 50 * 7 / 75 is 4, 50 * 8 / 75 is 5; 25 * 7 / 75 is 2.
         Expect.due("into a tank of 4", 4, () -> x.pass(1));
         Expect.due("what it gave", "[4, 2, 0]", () -> Fields.gave(x, 0));
         // 46 * 1 / 69 is 0, and so is 23 * 1 / 69.
         Expect.due("into a full tank", 0, () -> x.pass(1));
-        PoreField y = oneProducer(10, 0, 50, 0, 1);
+        PoreField y = Fields.oneProducer(10, 0, 50, 0, 1);
         y.tank(0);
         y.pass(1);
         Expect.due("water needs no tank", "[0, 4, 0]", () -> Fields.gave(y, 0));
     }
 
     private static void permit() {
-        PoreField x = oneProducer(10, 0, 0, 50, 9);
+        PoreField x = Fields.oneProducer(10, 0, 0, 50, 9);
         x.pass(1);
         Expect.due("with the permit of 10", "[0, 0, 10]", () -> Fields.gave(x, 0));
         Expect.due("many(9)", 10, () -> x.many(9));
@@ -172,7 +165,7 @@ final class MonthTest {
         x.pass(1);
         Expect.due("with a plugged injector", "[0, 0, 0]", () -> Fields.gave(x, 0));
         // What a first one brought up is not left for a second one: 10 in all.
-        PoreField y = oneProducer(10, 0, 0, 50, 1);
+        PoreField y = Fields.oneProducer(10, 0, 0, 50, 1);
         y.cell(1, 10, 0, 0, 50);
         Fields.drill(y, 0, 1, 1);
         y.pass(1);
@@ -181,7 +174,7 @@ final class MonthTest {
     }
 
     private static void gasPutBack() {
-        PoreField x = oneProducer(10, 0, 0, 50, 1);
+        PoreField x = Fields.oneProducer(10, 0, 0, 50, 1);
         Fields.drill(x, 2, 5, 2);
         Fields.drill(x, 2, 6, 3);
         Fields.drill(x, 2, 7, 9);
@@ -194,7 +187,7 @@ final class MonthTest {
         Expect.due("many(9)", 0, () -> x.many(9));
         Expect.due("many(10)", 8, () -> x.many(10));
         // The permit stays where injectors take first, and the rest is flared.
-        PoreField y = oneProducer(10, 0, 0, 50, 1);
+        PoreField y = Fields.oneProducer(10, 0, 0, 50, 1);
         Fields.drill(y, 2, 0, 2);
         y.pass(1);
         Expect.due("the cell of both", "[0, 0, 46]", () -> Fields.fluids(y, 0));
@@ -240,7 +233,7 @@ final class MonthTest {
         Expect.due("plugged", "[0, 0, 0]", () -> Fields.gave(x, 4));
         Expect.due("many(11) stays", 24, () -> x.many(11));
         // By the pressure behind the gas that is put back, and behind what came up.
-        PoreField y = oneProducer(10, 0, 0, 50, 1);
+        PoreField y = Fields.oneProducer(10, 0, 0, 50, 1);
         y.cell(5, 10, 0, 19, 0);
         y.cell(6, 10, 0, 20, 0);
         Fields.drill(y, 1, 5, 1);
@@ -322,7 +315,7 @@ final class MonthTest {
     }
 
     private static void allocateWithoutTests() {
-        PoreField x = oneProducer(10, 50, 0, 0, 1);
+        PoreField x = Fields.oneProducer(10, 50, 0, 0, 1);
         x.cell(1, 10, 0, 50, 0);
         Fields.drill(x, 0, 1, 1);
         Fields.drill(x, 0, 2, 9);
@@ -336,7 +329,7 @@ final class MonthTest {
         Expect.due("oil by truth", 4, () -> x.ofWell(0, 11));
         Expect.due("oil by truth", 0, () -> x.ofWell(1, 11));
         // It moves once, but rounded down it gives nothing.
-        PoreField y = oneProducer(15, 1, 1, 1, 1);
+        PoreField y = Fields.oneProducer(15, 1, 1, 1, 1);
         y.cell(1, 10, 50, 0, 0);
         Fields.drill(y, 0, 1, 1);
         Expect.due("pass(1)", 4, () -> y.pass(1));
@@ -344,7 +337,7 @@ final class MonthTest {
         Expect.due("allocated to it", 0, () -> y.ofWell(0, 12));
         Expect.due("allocated to the second one", 4, () -> y.ofWell(1, 12));
         // An odd one goes to the one with the smaller number, whatever the ranks.
-        PoreField z = oneProducer(10, 50, 0, 0, 2);
+        PoreField z = Fields.oneProducer(10, 50, 0, 0, 2);
         z.cell(1, 10, 0, 0, 50);
         Fields.drill(z, 0, 1, 1);
         z.rank(0, 9);
@@ -354,41 +347,41 @@ final class MonthTest {
     }
 
     private static void allocateByTests() {
-        PoreField x = oneProducer(10, 50, 0, 0, 2);
+        PoreField x = Fields.oneProducer(10, 50, 0, 0, 2);
         x.cell(1, 10, 50, 0, 0);
         Fields.drill(x, 0, 1, 1);
         x.test(0);
         x.test(1);
         Expect.due("pass(1)", 13, () -> x.pass(1));
-        Expect.due("allocated before the tests are known", "[7, 6]", () -> allocated(x, 2));
+        Expect.due("allocated before the tests are known", "[7, 6]", () -> Fields.allocated(x));
         Expect.due("the first test", "[9, 0, 0]", () -> Fields.tested(x, 0));
         Expect.due("the second test", "[4, 0, 0]", () -> Fields.tested(x, 1));
         Expect.due("to be tested again", 0, () -> x.ofWell(0, 13));
         // 11 * 9 / 13 is 7, 11 * 4 / 13 is 3, and one is left.
         Expect.due("pass(1)", 11, () -> x.pass(1));
-        Expect.due("allocated by tests", "[15, 9]", () -> allocated(x, 2));
+        Expect.due("allocated by tests", "[15, 9]", () -> Fields.allocated(x));
         Expect.due("the first test still", "[9, 0, 0]", () -> Fields.tested(x, 0));
         Expect.due("oil by truth", 16, () -> x.ofWell(0, 11));
         Expect.due("oil by truth", 8, () -> x.ofWell(1, 11));
         // Only the tests of those that gave something count.
         x.plug(0);
         Expect.due("pass(1)", 3, () -> x.pass(1));
-        Expect.due("allocated to the other one", "[15, 12]", () -> allocated(x, 2));
+        Expect.due("allocated to the other one", "[15, 12]", () -> Fields.allocated(x));
         // One without a test gets just of what is left over.
         x.cell(2, 10, 50, 0, 0);
         Fields.drill(x, 0, 2, 1);
         Expect.due("pass(1)", 7, () -> x.pass(1));
-        Expect.due("allocated", "[15, 19, 0]", () -> allocated(x, 3));
+        Expect.due("allocated", "[15, 19, 0]", () -> Fields.allocated(x));
         // A test of a single one counts as well, and so does a well that gave a single one.
-        PoreField y = oneProducer(10, 50, 0, 0, 1);
+        PoreField y = Fields.oneProducer(10, 50, 0, 0, 1);
         y.cell(1, 50, 31, 0, 0);
         Fields.drill(y, 0, 1, 9);
         y.test(1);
         Expect.due("pass(1)", 5, () -> y.pass(1));
-        Expect.due("allocated without tests", "[3, 2]", () -> allocated(y, 2));
+        Expect.due("allocated without tests", "[3, 2]", () -> Fields.allocated(y));
         y.cell(1, 50, 31, 0, 0);
         Expect.due("pass(1)", 5, () -> y.pass(1));
-        Expect.due("allocated by the only test", "[3, 7]", () -> allocated(y, 2));
+        Expect.due("allocated by the only test", "[3, 7]", () -> Fields.allocated(y));
         // In months that go by in one call just the first one is the test.
         x.test(2);
         x.pass(3);
@@ -396,16 +389,8 @@ final class MonthTest {
         Expect.due("what the latest one gave", "[3, 0, 0]", () -> Fields.gave(x, 2));
     }
 
-    private static String allocated(PoreField x, int wells) {
-        int[] row = new int[wells];
-        for (int w = 0; w < wells; w++) {
-            row[w] = x.ofWell(w, 12);
-        }
-        return Expect.row(row);
-    }
-
     private static void testOfAPluggedWell() {
-        PoreField x = oneProducer(10, 20, 20, 10, 2);
+        PoreField x = Fields.oneProducer(10, 20, 20, 10, 2);
         x.test(0);
         x.pass(1);
         Expect.due("the test", "[3, 3, 3]", () -> Fields.tested(x, 0));
@@ -419,7 +404,7 @@ final class MonthTest {
     }
 
     private static void entitled() {
-        PoreField x = oneProducer(10, 50, 0, 0, 2);
+        PoreField x = Fields.oneProducer(10, 50, 0, 0, 2);
         x.pass(1);
         Expect.due("partner 0 at first", 9, () -> x.ofPartner(0, 1));
         x.shares(33, 33);
@@ -437,7 +422,7 @@ final class MonthTest {
     }
 
     private static void roundedDown() {
-        PoreField x = oneProducer(10, 50, 0, 0, 2);
+        PoreField x = Fields.oneProducer(10, 50, 0, 0, 2);
         x.shares(1, 99);
         // 9 * 99 / 100 is 8.
         Expect.due("pass(1)", 9, () -> x.pass(1));
@@ -446,8 +431,8 @@ final class MonthTest {
     }
 
     private static void counted() {
-        PoreField x = oneProducer(10, 30, 30, 10, 2);
-        PoreField twin = oneProducer(10, 30, 30, 10, 2);
+        PoreField x = Fields.oneProducer(10, 30, 30, 10, 2);
+        PoreField twin = Fields.oneProducer(10, 30, 30, 10, 2);
         int oil = 0;
         int water = 0;
         int gas = 0;
