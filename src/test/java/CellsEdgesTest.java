@@ -16,16 +16,6 @@ final class CellsEdgesTest {
         Expect.finish();
     }
 
-    /** Rooms of 10 everywhere, and faults everywhere but at one place. */
-    private static PoreField openAt(int cell, boolean isEast) {
-        PoreField x = Fields.walled();
-        for (int c = 0; c < 16; c++) {
-            x.cell(c, 10, 0, 0, 0);
-        }
-        x.fault(cell, isEast, false);
-        return x;
-    }
-
     private static void eastAndSouth() {
         Expect.sentence("the CELL beside one to the EAST has a number 1 more (none beside the last one of a row), "
                 + "that to the SOUTH 4 more (none from 12 on)");
@@ -46,8 +36,8 @@ final class CellsEdgesTest {
     }
 
     private static String spread(int cell, boolean isEast, int from) {
-        PoreField x = openAt(cell, isEast);
-        x.cell(from, 10, 40, 0, 0);
+        PoreField x = Fields.oilIn(from, 40);
+        x.fault(cell, isEast, false);
         x.pass(1);
         int[] oil = new int[16];
         for (int c = 0; c < 16; c++) {
@@ -126,7 +116,8 @@ final class CellsEdgesTest {
         Fields.drill(y, 2, 5, 4);
         y.pass(1);
         Expect.due("gas above 99", "[0, 0, 107]", () -> Fields.fluids(y, 5));
-        PoreField z = openAt(0, true);
+        PoreField z = Fields.walled();
+        z.fault(0, true, false);
         z.cell(0, 90, 99, 0, 0);
         z.cell(1, 40, 99, 0, 0);
         z.pass(1);
@@ -179,8 +170,7 @@ final class CellsEdgesTest {
         Expect.sentence("through which nothing goes");
         for (boolean isEast : new boolean[] {true, false}) {
             int beside = Fields.beside(5, isEast);
-            PoreField x = openAt(5, isEast);
-            x.fault(5, isEast, true);
+            PoreField x = Fields.oilIn(5, 0);
             x.cell(5, 10, 99, 99, 99);
             x.pass(3);
             Expect.due("out of it", "[99, 99, 99]", () -> Fields.fluids(x, 5));
@@ -230,7 +220,8 @@ final class CellsEdgesTest {
         y.pass(1);
         Expect.due("of 43 oil and 7 gas", "[3, 0, 1]", () -> Fields.gave(y, 0));
         // Between cells it is the same: 2 * 4 * 5 / 10 is 4, all there is.
-        PoreField z = openAt(0, true);
+        PoreField z = Fields.oilIn(0, 0);
+        z.fault(0, true, false);
         z.cell(0, 10, 6, 0, 4);
         z.pass(1);
         Expect.due("what stays", "[3, 0, 0]", () -> Fields.fluids(z, 0));

@@ -17,6 +17,15 @@ final class Fields {
         return x;
     }
 
+    /** Rooms of 10 and faults everywhere; just the one cell has something, which is oil. */
+    static PoreField oilIn(int cell, int oil) {
+        PoreField x = walled();
+        for (int c = 0; c < 16; c++) {
+            x.cell(c, 10, c == cell ? oil : 0, 0, 0);
+        }
+        return x;
+    }
+
     /** The cell 0 on its own, with a producer in it, which is the well 0. */
     static PoreField oneProducer(int room, int oil, int water, int gas, int choke) {
         PoreField x = walled();

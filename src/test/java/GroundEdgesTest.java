@@ -174,22 +174,17 @@ final class GroundEdgesTest {
     }
 
     private static void eastThenSouth() {
-        Expect.sentence("(of several such pairs each by what there is by now)");
-        PoreField x = Fields.walled();
-        for (int c = 0; c < 16; c++) {
-            x.cell(c, 10, c == 0 ? 40 : 0, 0, 0);
-        }
+        Expect.sentence("CELL by CELL, first with the one to the EAST, then with the one to the SOUTH");
+        PoreField x = Fields.oilIn(0, 40);
         x.fault(0, true, false);
         x.fault(0, false, false);
         x.pass(1);
         // 400 and 0 differ 20 times by 20, and then 200 and 0 ten times.
         Expect.due("first to the east, then to the south", "[10, 20, 10]",
                 () -> Expect.row(x.ofCell(0, 1), x.ofCell(1, 1), x.ofCell(4, 1)));
+        Expect.sentence("(of several such pairs each by what there is by now)");
         // Cell by cell: what comes from the one ahead goes on in the same month.
-        PoreField y = Fields.walled();
-        for (int c = 0; c < 16; c++) {
-            y.cell(c, 10, c == 0 ? 80 : 0, 0, 0);
-        }
+        PoreField y = Fields.oilIn(0, 80);
         for (int c = 0; c < 3; c++) {
             y.fault(c, true, false);
         }
@@ -197,11 +192,15 @@ final class GroundEdgesTest {
         y.pass(1);
         Expect.due("along the row, and down", "[40, 20, 10, 5, 5]",
                 () -> Expect.row(y.ofCell(0, 1), y.ofCell(1, 1), y.ofCell(2, 1), y.ofCell(3, 1), y.ofCell(7, 1)));
+        // To the south of the cell 0, ahead of the east of the cell 4.
+        PoreField v = Fields.oilIn(0, 40);
+        v.fault(0, false, false);
+        v.fault(4, true, false);
+        v.pass(1);
+        Expect.due("down, and along the next row", "[20, 10, 10]",
+                () -> Expect.row(v.ofCell(0, 1), v.ofCell(4, 1), v.ofCell(5, 1)));
         // The other way it goes one cell a month.
-        PoreField z = Fields.walled();
-        for (int c = 0; c < 16; c++) {
-            z.cell(c, 10, c == 3 ? 80 : 0, 0, 0);
-        }
+        PoreField z = Fields.oilIn(3, 80);
         for (int c = 0; c < 3; c++) {
             z.fault(c, true, false);
         }

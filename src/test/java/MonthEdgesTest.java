@@ -2,6 +2,7 @@
 final class MonthEdgesTest {
     public static void main(String[] args) {
         now();
+        monthByMonth();
         smallerRanksFirst();
         pressureAbove50();
         wantsAreRoundedDown();
@@ -41,6 +42,36 @@ final class MonthEdgesTest {
         x.book();
         x.wouldGive(12);
         Expect.due("many(0) behind what would be", 50, () -> x.many(0));
+    }
+
+    private static void monthByMonth() {
+        Expect.sentence("Returns how much OIL came up.");
+        for (int months : new int[] {1, 2, 23, 24}) {
+            PoreField x = allAtWork();
+            PoreField y = allAtWork();
+            int oil = 0;
+            for (int m = 0; m < months; m++) {
+                oil += y.pass(1);
+            }
+            int sum = oil;
+            Expect.due("pass(" + months + ")", sum, () -> x.pass(months));
+            Expect.due("all behind pass(" + months + ")", Whole.of(y), () -> Whole.of(x));
+        }
+        Expect.due("pass(24) without wells", 0, () -> new PoreField().pass(24));
+    }
+
+    private static PoreField allAtWork() {
+        PoreField x = new PoreField();
+        for (int c = 0; c < 16; c++) {
+            x.cell(c, 10 + c, 99 - c, 20 + c, 3 * c);
+        }
+        Fields.drill(x, 0, 0, 2);
+        Fields.drill(x, 0, 15, 1);
+        Fields.drill(x, 1, 6, 3);
+        Fields.drill(x, 2, 9, 1);
+        x.shares(33, 33);
+        x.test(1);
+        return x;
     }
 
     // ---- (1) what a producer wants
@@ -195,6 +226,17 @@ final class MonthEdgesTest {
         PoreField z = producer(31, 0, 10);
         z.permit(0);
         Expect.due("of 31 and 10 without a permit", "[1, 0, 0]", () -> gaveIn1(z));
+        // A single one of the gas: 2 * 1 * 24 / 50 is 0, and 2 * 1 * 25 / 50 is 1.
+        for (int permit = 0; permit <= 1; permit++) {
+            PoreField v = producer(49, 0, 1);
+            v.permit(permit);
+            Expect.due("of 49 and 1 with a permit of " + permit, permit == 0 ? "[23, 0, 0]" : "[39, 0, 1]",
+                    () -> gaveIn1(v));
+            PoreField w = producer(49, 0, 1);
+            w.capacity(2, permit);
+            Expect.due("of 49 and 1 with a capacity of " + permit, permit == 0 ? "[23, 0, 0]" : "[39, 0, 1]",
+                    () -> gaveIn1(w));
+        }
     }
 
     private static void whatIsLeftOfACapacity() {

@@ -120,11 +120,11 @@ final class RefusedTest {
             takes(cell, made, 0, 15, BOUNDS, (x, v) -> x.well(0, v));
             takes("if kind is not 0 to 2", made, 0, 2, ARGUMENT, (x, v) -> x.well(v, 3));
         }
-        takes("if room is not 10 to 90", made, 10, 90, ARGUMENT, (x, v) -> x.cell(2, v, 1, 2, 3));
+        takes("if room is not 10 to 90", made, 10, 90, ARGUMENT, (x, v) -> x.cell(5, v, 1, 2, 3));
         String fluids = "or oil, water or gas not 0 to 99";
-        takes(fluids, made, 0, 99, ARGUMENT, (x, v) -> x.cell(2, 40, v, 2, 3));
-        takes(fluids, made, 0, 99, ARGUMENT, (x, v) -> x.cell(2, 40, 1, v, 3));
-        takes(fluids, made, 0, 99, ARGUMENT, (x, v) -> x.cell(2, 40, 1, 2, v));
+        takes(fluids, made, 0, 99, ARGUMENT, (x, v) -> x.cell(5, 55, v, 2, 3));
+        takes(fluids, made, 0, 99, ARGUMENT, (x, v) -> x.cell(5, 55, 1, v, 3));
+        takes(fluids, made, 0, 99, ARGUMENT, (x, v) -> x.cell(5, 55, 1, 2, v));
         takes("if what is not 0 to 4", made, 0, 4, ARGUMENT, (x, v) -> x.ofCell(0, v));
     }
 
