@@ -6,6 +6,7 @@ final class GroundEdgesTest {
         waterBelow200();
         waterByNow();
         differBy20();
+        theGreatestDifference();
         greaterPressure();
         eastThenSouth();
         counts();
@@ -102,6 +103,17 @@ final class GroundEdgesTest {
             x.pass(1);
             Expect.due("two into " + d[0], Expect.row(d[1], d[2]), () -> Expect.row(x.ofWell(0, 9), x.ofWell(1, 9)));
         }
+        Expect.sentence("WATER INJECTORS by numbers");
+        PoreField x = Fields.walled();
+        x.cell(6, 10, 0, 18, 0);
+        Fields.drill(x, 1, 6, 1);
+        Fields.drill(x, 1, 6, 3);
+        x.rank(0, 9);
+        x.rank(1, 1);
+        x.pass(1);
+        Expect.due("two into 18, by their ranks the other way", "[2, 0]",
+                () -> Expect.row(x.ofWell(0, 9), x.ofWell(1, 9)));
+        Expect.sentence("if that has a PRESSURE below 200 by now");
         // Behind what came up: 1 * 150 / 100 of 20 is one, and 19 make 190.
         PoreField y = Fields.walled();
         y.cell(6, 10, 20, 0, 0);
@@ -151,6 +163,28 @@ final class GroundEdgesTest {
         x.pass(1);
         Expect.due("what " + call + " has then", d[1] - d[6], () -> x.ofCell(from, 1));
         Expect.due("what the other one has then", d[4] + d[6], () -> x.ofCell(to, 1));
+    }
+
+    private static void theGreatestDifference() {
+        Expect.sentence("as often as PRESSURES differ by 20, whole, so many times it MOVES");
+        // 2970, 2960 and 2950 differ from 0 by 148, 148 and 147 times 20: of 98 water 98 * 148 / 296 is 49.
+        int[][] due = {{99, 99, 99, 49, 49, 98}, {99, 98, 99, 49, 49, 99}, {98, 98, 99, 48, 48, 98}};
+        for (int[] d : due) {
+            for (boolean isEast : new boolean[] {true, false}) {
+                int other = Fields.beside(5, isEast);
+                for (int from : new int[] {5, other}) {
+                    PoreField x = Fields.walled();
+                    x.fault(5, isEast, false);
+                    x.cell(from, 10, d[0], d[1], d[2]);
+                    x.pass(1);
+                    String call = Expect.row(d[0], d[1], d[2]) + " in " + from;
+                    Expect.due("what goes of " + call, Expect.row(d[3], d[4], d[5]),
+                            () -> Fields.fluids(x, 5 + other - from));
+                    Expect.due("what stays of " + call, Expect.row(d[0] - d[3], d[1] - d[4], d[2] - d[5]),
+                            () -> Fields.fluids(x, from));
+                }
+            }
+        }
     }
 
     private static void greaterPressure() {

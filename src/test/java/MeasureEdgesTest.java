@@ -189,16 +189,25 @@ final class MeasureEdgesTest {
         give(x, 6, 0, 2);
         Expect.due("pass(1)", 8, () -> x.pass(1));
         Expect.due("allocated", "[10, 3, 5]", () -> Fields.allocated(x));
+        // The first one has a choke, but no pressure above 50: its test does not count either.
+        x.cell(0, 10, 5, 0, 0);
+        x.choke(0, 9);
+        x.cell(1, 10, 0, 9, 0);
+        x.choke(1, 9);
+        x.cell(2, 10, 65, 0, 0);
+        Expect.due("pass(1)", 6, () -> x.pass(1));
+        // 6 * 6 / 7 is 5, 6 * 1 / 7 is 0, and one is left over.
+        Expect.due("allocated", "[10, 9, 5]", () -> Fields.allocated(x));
         // Just one gives something: all is its own.
         give(x, 0, 7, 0);
         Expect.due("pass(1)", 7, () -> x.pass(1));
-        Expect.due("allocated", "[10, 10, 5]", () -> Fields.allocated(x));
+        Expect.due("allocated", "[10, 16, 5]", () -> Fields.allocated(x));
         // Those with oil in their tests give nothing: the rest has no oil in tests at all.
         Fields.drill(x, 0, 3, 0);
         Fields.drill(x, 0, 4, 0);
         give(x, 0, 0, 0, 2, 3);
         Expect.due("pass(1)", 5, () -> x.pass(1));
-        Expect.due("allocated", "[10, 10, 5, 3, 2]", () -> Fields.allocated(x));
+        Expect.due("allocated", "[10, 16, 5, 3, 2]", () -> Fields.allocated(x));
     }
 
     private static void leftOverBehindTests() {

@@ -144,6 +144,13 @@ final class MonthEdgesTest {
         PoreField y = producer(99, 0, 0);
         y.capacity(0, 99);
         Expect.due("pass(1) of 99 in a room of 10", 84, () -> y.pass(1));
+        // The most that is ever told: 9 * (2970 - 50) / 100 is 262 of 297, which bring 87 each, and all of the gas.
+        PoreField v = producer(99, 99, 99);
+        v.permit(99);
+        for (int f = 0; f < 3; f++) {
+            v.capacity(f, 99);
+        }
+        Expect.due("of 99 of each fluid in a room of 10", "[87, 87, 99]", () -> gaveIn1(v));
         PoreField z = producer(99, 0, 0);
         z.capacity(0, 99);
         z.choke(0, 0);

@@ -77,6 +77,24 @@ final class ReservesEdgesTest {
         z.capacity(0, 98);
         Expect.due("book() with a capacity of 98", 1176, () -> z.book());
         Expect.due("pass(24) into the tank", 999, () -> z.pass(24));
+        // As much once more than the greatest tank has when it is full.
+        z.capacity(0, 99);
+        for (int c = 0; c < 16; c++) {
+            z.cell(c, 10, 99, 0, 0);
+        }
+        Expect.due("pass(1) into the full tank", 0, () -> z.pass(1));
+        Expect.due("book() with a full tank of 999", 1188, () -> z.book());
+        Expect.due("pass(1) into the full tank, booked", 0, () -> z.pass(1));
+        // It is as great for what they would be less, too: 29 of an old one, and 29 of a new one.
+        for (int size : new int[] {0, 28, 29, 57, 58}) {
+            PoreField v = oneWell();
+            v.tank(size);
+            v.book();
+            v.cell(1, 10, 50, 0, 0);
+            Fields.drill(v, 0, 1, 1);
+            Expect.due("book() of two with a tank of " + size, 58, () -> v.book());
+            Expect.due("booked() of two with a tank of " + size, "[58, 0, 29, 0, 0]", () -> Fields.booked(v));
+        }
     }
 
     private static void theFirstOne() {
@@ -120,6 +138,15 @@ final class ReservesEdgesTest {
         x.lift(0, 9);
         x.book();
         Expect.due("booked(1) of four months", -10, () -> x.booked(1));
+        // And what was lifted ahead of a booking was not produced since then.
+        PoreField y = oneWell();
+        y.pass(2);
+        y.lift(0, 5);
+        y.book();
+        y.pass(1);
+        y.lift(0, 6);
+        y.book();
+        Expect.due("booked(1) of a month, with ships ahead of both", -3, () -> y.booked(1));
     }
 
     private static void wellsSinceThen() {

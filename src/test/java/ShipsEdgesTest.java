@@ -35,8 +35,30 @@ final class ShipsEdgesTest {
             Expect.due("what came up ever", 30, () -> x.many(5));
             Expect.due("partner 0", Expect.row(100, 30, d[1], 5 * d[1]), () -> Fields.partner(x, 0));
         }
+        fullOf999();
         Expect.argument("lift(0, 0)", () -> withOil(30, 100, 0).lift(0, 0));
         Expect.argument("lift(0, 1000)", () -> withOil(30, 100, 0).lift(0, 1000));
+    }
+
+    /** The most that can be lifted at all: the greatest tank, full, in one call. */
+    private static void fullOf999() {
+        PoreField x = Fields.walled();
+        x.tank(999);
+        x.capacity(0, 99);
+        for (int w = 0; w < 6; w++) {
+            Fields.drill(x, 0, w, 9);
+        }
+        for (int month = 0; month < 11; month++) {
+            for (int w = 0; w < 6; w++) {
+                x.cell(w, 10, 99, 0, 0);
+            }
+            x.pass(1);
+        }
+        x.price(99);
+        Expect.due("mayLift(0) of a full tank", 999, () -> x.mayLift(0));
+        Expect.due("lift(0, 999)", 999, () -> x.lift(0, 999));
+        Expect.due("partner 0", Expect.row(100, 999, 999, 98901), () -> Fields.partner(x, 0));
+        Expect.due("what the tank has then", 0, () -> x.many(8));
     }
 
     private static void overlift() {
@@ -179,6 +201,12 @@ final class ShipsEdgesTest {
         Fields.drill(x, 1, 0, 9);
         x.pass(1);
         Expect.due("water put in", 18, () -> x.many(11));
+        Expect.due("the field's money", 0, () -> x.many(12));
+        for (int month = 0; month < 20; month++) {
+            x.cell(0, 90, 0, 0, 0);
+            x.pass(10);
+        }
+        Expect.due("water put in", 3618, () -> x.many(11));
         Expect.due("the field's money", 0, () -> x.many(12));
         for (int p = 0; p < 3; p++) {
             int partner = p;

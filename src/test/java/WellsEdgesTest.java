@@ -109,6 +109,21 @@ final class WellsEdgesTest {
         Expect.argument("choke(0, 10)", () -> x.choke(0, 10));
         Expect.argument("choke(0, -1)", () -> x.choke(0, -1));
         Expect.due("ofWell(0, 2) behind these", 9, () -> x.ofWell(0, 2));
+        // It is the choke alone that is told.
+        PoreField y = Fields.oneProducer(10, 50, 0, 0, 1);
+        y.test(0);
+        y.pass(1);
+        y.test(0);
+        Expect.due("choke(0, 7)", 1, () -> y.choke(0, 7));
+        Expect.due("all but the choke", "[0, 0, 7, 5, 0, 4, 0, 0, 4, 0, 0, 4, 4, 1]", () -> all(y, 0));
+    }
+
+    private static String all(PoreField x, int well) {
+        int[] row = new int[14];
+        for (int what = 0; what < row.length; what++) {
+            row[what] = x.ofWell(well, what);
+        }
+        return Expect.row(row);
     }
 
     private static void ranks() {
@@ -131,6 +146,13 @@ final class WellsEdgesTest {
         Expect.due("rank(1, 9)", 1, () -> x.rank(1, 9));
         x.well(2, 0);
         Expect.due("rank(2, 1)", 5, () -> x.rank(2, 1));
+        // It is the rank alone that is told.
+        PoreField y = Fields.oneProducer(10, 50, 0, 0, 1);
+        y.test(0);
+        y.pass(1);
+        y.test(0);
+        Expect.due("rank(0, 2)", 5, () -> y.rank(0, 2));
+        Expect.due("all but the rank", "[0, 0, 1, 2, 0, 4, 0, 0, 4, 0, 0, 4, 4, 1]", () -> all(y, 0));
     }
 
     private static void severalInOneCell() {
@@ -234,6 +256,20 @@ final class WellsEdgesTest {
         y.choke(0, 0);
         y.pass(1);
         Expect.due("a month with a choke of 0", "[0, 0, 0]", () -> Fields.gave(y, 0));
+        // So it is for an injector: with a choke of 0, in a cell with too much pressure, and plugged.
+        PoreField z = Fields.walled();
+        for (int w = 0; w < 3; w++) {
+            z.cell(w, 10, 0, 15, 0);
+            Fields.drill(z, 1, w, 3);
+        }
+        z.pass(1);
+        Expect.due("what three injectors put in", "[6, 6, 6]",
+                () -> Expect.row(z.ofWell(0, 9), z.ofWell(1, 9), z.ofWell(2, 9)));
+        z.choke(0, 0);
+        z.plug(2);
+        z.pass(1);
+        Expect.due("what they put in a month on", "[0, 0, 0]",
+                () -> Expect.row(z.ofWell(0, 9), z.ofWell(1, 9), z.ofWell(2, 9)));
     }
 
     /** So much more than 99 of a fluid that all of a capacity is used: six full cells, each with a producer. */

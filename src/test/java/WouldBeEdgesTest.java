@@ -61,6 +61,7 @@ final class WouldBeEdgesTest {
             int oil = open().pass(m);
             Expect.due("wouldGive(" + m + ")", oil, () -> open().wouldGive(m));
         }
+        asTold();
         // The tank is as great as it is, and has what it has.
         for (int size = 28; size <= 30; size++) {
             PoreField x = Fields.oneProducer(10, 50, 0, 0, 1);
@@ -73,6 +74,51 @@ final class WouldBeEdgesTest {
         Expect.due("wouldGive(12) into a full tank", 0, () -> y.wouldGive(12));
         y.lift(0, 1);
         Expect.due("wouldGive(12) behind a ship", 1, () -> y.wouldGive(12));
+    }
+
+    /** Whatever is told counts for what would be: each of these makes another answer of it. */
+    private static void asTold() {
+        int plain = allFluids().wouldGive(3);
+        for (int told = 0; told < 12; told++) {
+            PoreField x = allFluids();
+            PoreField twin = allFluids();
+            tell(x, told);
+            tell(twin, told);
+            int number = told;
+            int oil = twin.pass(3);
+            Expect.due("wouldGive(3) behind what is told as " + number, oil, () -> x.wouldGive(3));
+            Expect.due("what is told as " + number + " makes a difference", true, () -> oil != plain);
+        }
+    }
+
+    private static PoreField allFluids() {
+        PoreField x = Fields.walled();
+        x.cell(0, 10, 40, 40, 15);
+        x.cell(1, 10, 60, 20, 15);
+        x.cell(4, 10, 90, 0, 0);
+        x.permit(40);
+        Fields.drill(x, 0, 0, 4);
+        Fields.drill(x, 0, 1, 3);
+        Fields.drill(x, 1, 0, 0);
+        Fields.drill(x, 2, 15, 0);
+        return x;
+    }
+
+    private static void tell(PoreField x, int what) {
+        switch (what) {
+            case 0: x.capacity(0, 10); break;
+            case 1: x.capacity(1, 10); break;
+            case 2: x.capacity(2, 10); break;
+            case 3: x.permit(9); break;
+            case 4: x.tank(20); break;
+            case 5: x.cell(0, 20, 40, 40, 15); break;
+            case 6: x.cell(0, 10, 40, 40, 16); x.cell(1, 10, 61, 20, 15); break;
+            case 7: x.fault(0, true, false); break;
+            case 8: x.fault(0, false, false); break;
+            case 9: x.plug(1); break;
+            case 10: x.choke(0, 5); break;
+            default: x.cell(0, 10, 5, 0, 0); x.choke(2, 9); break;
+        }
     }
 
     private static void nothingIsChanged() {
@@ -154,6 +200,11 @@ final class WouldBeEdgesTest {
         Expect.due("bestChoke(1, 2)", 6, () -> x.bestChoke(1, 2));
         Expect.argument("bestChoke(1, 0)", () -> x.bestChoke(1, 0));
         Expect.argument("bestChoke(1, 7)", () -> x.bestChoke(1, 7));
+        // It is the sum of them: with 9 they are 40 and 4, with 5, which gives most in the second one, 22 and 11.
+        PoreField z = Fields.oneProducer(10, 50, 0, 0, 5);
+        Expect.due("bestChoke(0, 2)", 9, () -> z.bestChoke(0, 2));
+        Expect.due("pass(1) with 5", 22, () -> z.pass(1));
+        Expect.due("pass(1) with 5 again", 11, () -> z.pass(1));
         // In six months all of a little oil comes up with less than in one.
         PoreField y = Fields.oneProducer(10, 50, 0, 0, 0);
         y.capacity(0, 5);
