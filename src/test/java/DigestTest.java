@@ -47,33 +47,9 @@ final class DigestTest {
 
     private static long put(PoreField x) {
         long d = 5406;
-        for (int what = 0; what <= 14; what++) {
-            d = d * 31 + x.many(what);
+        for (int v : Fields.digested(x)) {
+            d = d * 31 + v;
         }
-        for (int c = 0; c <= 15; c++) {
-            for (int what = 0; what <= 4; what++) {
-                d = d * 31 + x.ofCell(c, what);
-            }
-        }
-        for (int w = 0; w < x.many(1); w++) {
-            for (int what = 0; what <= 13; what++) {
-                d = d * 31 + x.ofWell(w, what);
-            }
-            if (x.ofWell(w, 4) == 0) {
-                d = d * 31 + x.bestChoke(w, 2);
-            }
-        }
-        for (int p = 0; p <= 2; p++) {
-            for (int what = 0; what <= 3; what++) {
-                d = d * 31 + x.ofPartner(p, what);
-            }
-            d = d * 31 + x.mayLift(p);
-        }
-        for (int what = 0; what <= 4; what++) {
-            d = d * 31 + x.booked(what);
-        }
-        d = d * 31 + x.wouldGive(3);
-        d = d * 31 + x.keptBack(5, true, 2);
-        return d * 31 + x.keptBack(5, false, 2);
+        return d;
     }
 }

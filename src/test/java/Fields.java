@@ -1,3 +1,6 @@
+import java.util.ArrayList;
+import java.util.List;
+
 /** Fields and rows of answers that several tests want. */
 final class Fields {
     private Fields() {
@@ -31,6 +34,23 @@ final class Fields {
         PoreField x = walled();
         x.cell(0, room, oil, water, gas);
         drill(x, 0, 0, choke);
+        return x;
+    }
+
+    /** Two producers, a water injector and a gas injector, all at work, and faults at the cells 0 and 5. */
+    static PoreField open() {
+        PoreField x = new PoreField();
+        x.cell(0, 20, 60, 10, 10);
+        x.cell(1, 10, 50, 20, 5);
+        x.cell(5, 40, 80, 0, 30);
+        x.cell(9, 30, 20, 90, 0);
+        x.fault(0, true, true);
+        x.fault(5, true, true);
+        x.fault(5, false, true);
+        drill(x, 0, 0, 4);
+        drill(x, 0, 5, 6);
+        drill(x, 1, 9, 2);
+        drill(x, 2, 1, 3);
         return x;
     }
 
@@ -86,5 +106,39 @@ final class Fields {
             all[what] = x.many(what);
         }
         return Expect.row(all);
+    }
+
+    /** All answers that digest() is made of, in its order. */
+    static List<Integer> digested(PoreField x) {
+        List<Integer> all = new ArrayList<>();
+        for (int what = 0; what <= 14; what++) {
+            all.add(x.many(what));
+        }
+        for (int c = 0; c <= 15; c++) {
+            for (int what = 0; what <= 4; what++) {
+                all.add(x.ofCell(c, what));
+            }
+        }
+        for (int w = 0; w < x.many(1); w++) {
+            for (int what = 0; what <= 13; what++) {
+                all.add(x.ofWell(w, what));
+            }
+            if (x.ofWell(w, 4) == 0) {
+                all.add(x.bestChoke(w, 2));
+            }
+        }
+        for (int p = 0; p <= 2; p++) {
+            for (int what = 0; what <= 3; what++) {
+                all.add(x.ofPartner(p, what));
+            }
+            all.add(x.mayLift(p));
+        }
+        for (int what = 0; what <= 4; what++) {
+            all.add(x.booked(what));
+        }
+        all.add(x.wouldGive(3));
+        all.add(x.keptBack(5, true, 2));
+        all.add(x.keptBack(5, false, 2));
+        return all;
     }
 }

@@ -194,7 +194,8 @@ final class GreatestRunsTest {
         x.fault(11, false, false);
         x.cell(11, 10, 0, 0, 0);
         pass(1);
-        Expect.due("through the fault that was", Expect.row(all, 0), () -> Expect.row(x.ofCell(11, 3), x.ofCell(15, 3)));
+        Expect.due("through the fault that was", Expect.row(all, 0),
+                () -> Expect.row(x.ofCell(11, 3), x.ofCell(15, 3)));
         pass(1);
         Expect.due("and back", Expect.row(0, all), () -> Expect.row(x.ofCell(11, 3), x.ofCell(15, 3)));
     }

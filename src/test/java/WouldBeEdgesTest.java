@@ -21,18 +21,7 @@ final class WouldBeEdgesTest {
     }
 
     private static PoreField open() {
-        PoreField x = new PoreField();
-        x.cell(0, 20, 60, 10, 10);
-        x.cell(1, 10, 50, 20, 5);
-        x.cell(5, 40, 80, 0, 30);
-        x.cell(9, 30, 20, 90, 0);
-        x.fault(0, true, true);
-        x.fault(5, true, true);
-        x.fault(5, false, true);
-        Fields.drill(x, 0, 0, 4);
-        Fields.drill(x, 0, 5, 6);
-        Fields.drill(x, 1, 9, 2);
-        Fields.drill(x, 2, 1, 3);
+        PoreField x = Fields.open();
         x.test(0);
         x.tank(60);
         x.shares(50, 25);
@@ -314,6 +303,13 @@ final class WouldBeEdgesTest {
         PoreField x = beside(4, false, 10, 90);
         x.tank(4);
         Expect.due("keptBack(4, false, 2) with a tank of 4", 3, () -> x.keptBack(4, false, 2));
+        // With the fault 9 and 7 come up of 50, if there is room: it keeps nothing back from a tank that is full.
+        int[][] due = {{4, 0}, {16, 0}, {17, 1}};
+        for (int[] d : due) {
+            PoreField y = beside(4, false, 50, 90);
+            y.tank(d[0]);
+            Expect.due("keptBack(4, false, 2) of 50 with a tank of " + d[0], d[1], () -> y.keptBack(4, false, 2));
+        }
     }
 
     private static void digestWrapsAround() {
@@ -354,35 +350,9 @@ final class WouldBeEdgesTest {
 
     private static BigInteger exact(PoreField x) {
         BigInteger d = BigInteger.valueOf(5406);
-        for (int what = 0; what <= 14; what++) {
-            d = on(d, x.many(what));
+        for (int v : Fields.digested(x)) {
+            d = d.multiply(BigInteger.valueOf(31)).add(BigInteger.valueOf(v));
         }
-        for (int c = 0; c <= 15; c++) {
-            for (int what = 0; what <= 4; what++) {
-                d = on(d, x.ofCell(c, what));
-            }
-        }
-        for (int w = 0; w < x.many(1); w++) {
-            for (int what = 0; what <= 13; what++) {
-                d = on(d, x.ofWell(w, what));
-            }
-            d = x.ofWell(w, 4) == 1 ? d : on(d, x.bestChoke(w, 2));
-        }
-        for (int p = 0; p <= 2; p++) {
-            for (int what = 0; what <= 3; what++) {
-                d = on(d, x.ofPartner(p, what));
-            }
-            d = on(d, x.mayLift(p));
-        }
-        for (int what = 0; what <= 4; what++) {
-            d = on(d, x.booked(what));
-        }
-        d = on(d, x.wouldGive(3));
-        d = on(d, x.keptBack(5, true, 2));
-        return on(d, x.keptBack(5, false, 2));
-    }
-
-    private static BigInteger on(BigInteger d, int v) {
-        return d.multiply(BigInteger.valueOf(31)).add(BigInteger.valueOf(v));
+        return d;
     }
 }

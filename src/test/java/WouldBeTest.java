@@ -11,30 +11,14 @@ final class WouldBeTest {
         Expect.finish();
     }
 
-    private static PoreField open() {
-        PoreField x = new PoreField();
-        x.cell(0, 20, 60, 10, 10);
-        x.cell(1, 10, 50, 20, 5);
-        x.cell(5, 40, 80, 0, 30);
-        x.cell(9, 30, 20, 90, 0);
-        x.fault(0, true, true);
-        x.fault(5, true, true);
-        x.fault(5, false, true);
-        Fields.drill(x, 0, 0, 4);
-        Fields.drill(x, 0, 5, 6);
-        Fields.drill(x, 1, 9, 2);
-        Fields.drill(x, 2, 1, 3);
-        return x;
-    }
-
     private static void wouldGive() {
-        PoreField x = open();
+        PoreField x = Fields.open();
         Expect.argument("wouldGive(0)", () -> x.wouldGive(0));
         Expect.argument("wouldGive(13)", () -> x.wouldGive(13));
         Expect.argument("wouldGive(-1)", () -> x.wouldGive(-1));
         for (int m = 1; m <= 12; m++) {
             int months = m;
-            Expect.due("wouldGive(" + m + ")", open().pass(m), () -> x.wouldGive(months));
+            Expect.due("wouldGive(" + m + ")", Fields.open().pass(m), () -> x.wouldGive(months));
         }
         x.tank(3);
         Expect.due("wouldGive(12) into a tank of 3", 3, () -> x.wouldGive(12));
@@ -93,7 +77,7 @@ final class WouldBeTest {
     }
 
     private static void wrongChokes() {
-        PoreField x = open();
+        PoreField x = Fields.open();
         Expect.bounds("bestChoke(4, 0)", () -> x.bestChoke(4, 0));
         Expect.bounds("bestChoke(-1, 1)", () -> x.bestChoke(-1, 1));
         Expect.argument("bestChoke(0, 0)", () -> x.bestChoke(0, 0));
@@ -139,11 +123,11 @@ final class WouldBeTest {
     }
 
     private static void nothingIsChanged() {
-        PoreField x = open();
+        PoreField x = Fields.open();
         x.test(1);
         x.pass(2);
         x.test(0);
-        PoreField twin = open();
+        PoreField twin = Fields.open();
         twin.test(1);
         twin.pass(2);
         twin.test(0);
